@@ -867,18 +867,22 @@ public final class LevelCellars {
             return levelOf(one[pipe]) >= levelOf(other[pipe]) ? one[pipe] : other[pipe];
         }
 
-        int lowerOf(int pipe) {
-            return one[pipe] + other[pipe] - upperOf(pipe);
+        int farEndOf(int pipe, int nearEnd) {
+            return one[pipe] + other[pipe] - nearEnd;
         }
 
         int runs(int pipe) {
+            return runsFrom(upperOf(pipe), pipe);
+        }
+
+        /** What runs through a pipe, told which of its cellars is the upper one. */
+        private int runsFrom(int upper, int pipe) {
             if (corked[pipe] != 0) {
                 return 0;
             }
-            int from = upperOf(pipe);
-            int to = lowerOf(pipe);
-            int pressed = wide[pipe] * (levelOf(from) - levelOf(to)) / 2;
-            return Kinds.takesIn(kind[to], Math.min(pressed, fullOf(from)));
+            int lower = farEndOf(pipe, upper);
+            int pressed = wide[pipe] * (levelOf(upper) - levelOf(lower)) / 2;
+            return Kinds.takesIn(kind[lower], Math.min(pressed, fullOf(upper)));
         }
 
         int runningPipes() {
@@ -924,7 +928,8 @@ public final class LevelCellars {
 
         void oneHour() {
             for (int p = 0; p < pipes; p++) {
-                lead(upperOf(p), runs(p), lowerOf(p));
+                int upper = upperOf(p);
+                lead(upper, runsFrom(upper, p), farEndOf(p, upper));
             }
             for (int c = 0; c < cellars; c++) {
                 lead(c, Kinds.loses(kind[c], fullOf(c)), SPILT);
