@@ -178,8 +178,12 @@ public final class PromisesTest {
             due("LOSES without wine of " + c, x.told(c, 6), 0);
             wine(x, c, 0, 9, 0);
             due("HIGH of a little in " + c, x.told(c, 4), c == 2 || c == 4 ? 1 : 0);
+            wine(x, c, 0, 1, 0);
+            due("HIGH of one drop in " + c, x.told(c, 4), c == 2 || c == 4 ? 1 : 0);
             wine(x, c, 0, 0, 39);
             due("LOSES of 39 in " + c, x.told(c, 6), c == 2 ? 1 : 0);
+            wine(x, c, 0, 0, 40);
+            due("LOSES of 40 in " + c, x.told(c, 6), c == 2 ? 2 : c == 4 ? 1 : 0);
         }
         wine(x, 3, 30, 10, 0);
         due("a VAULT of 40 is not below 0", x.told(3, 4), 0);
@@ -487,6 +491,22 @@ public final class PromisesTest {
         due("sort 0", x.told(1, 8), 1);
         due("sort 1", x.told(1, 9), 1);
         due("sort 2", x.told(1, 10), 0);
+        // 3 of 2, 1, 1 behind other shares: 1, 0, 0; of sort 0 one more, then one of sort 1.
+        x = withCellars(0, 0);
+        x.set(1, 1, 4);
+        x.pipe(0, 1, 1);
+        wine(x, 0, 2, 1, 1);
+        due("1 * 6 / 2", x.pipeOf(0, 4), 3);
+        x.hours(1);
+        due("sort 0", x.told(1, 8), 2);
+        due("sort 1", x.told(1, 9), 1);
+        due("sort 2", x.told(1, 10), 0);
+        due("left 2", x.told(0, 10), 1);
+        x.cork(0, 1);
+        wine(x, 0, 400, 0, 0);
+        x.set(0, 2, 1);
+        x.hours(1);
+        due("shares are made anew", x.told(0, 8), 299);
         manyDrops();
     }
 
@@ -579,6 +599,8 @@ public final class PromisesTest {
         due("cellars with wine", x.town(3), 9);
         x.cork(1, 1);
         due("one pipe", x.town(2), 1);
+        wine(x, 3, 0, 0, 1);
+        due("one drop is wine", x.town(3), 9);
         due("what 4", x.town(4), BAD);
         due("what -1", x.town(-1), BAD);
     }
@@ -640,6 +662,7 @@ public final class PromisesTest {
         }
         LevelCellars x = hill();
         promise = 16;
+        due("no cellars", new LevelCellars().behind(1, 2), BAD);
         due("n -1", x.behind(-1, 0), BAD);
         due("n 101", x.behind(101, 0), BAD);
         due("what -1", x.behind(1, -1), BAD);
@@ -765,6 +788,11 @@ public final class PromisesTest {
         x.pipe(1, 0, 1);
         x.cork(0, 1);
         due("a CORKED pipe is one", x.dig(1, 0), NONE);
+        x.cellar(0, 1, 1);
+        x.cellar(0, 1, 1);
+        due("the least of several", x.dig(1, 0), 2);
+        x.pipe(2, 0, 1);
+        due("03, not 12", x.dig(1, 0), 3);
         // A thirteenth: cellar 1 is over its lip, cellar 2 has room; all the pipes join 0 and 1 and are CORKED.
         x = withCellars(0, 0, 0);
         x.set(1, 2, 19);
@@ -970,6 +998,9 @@ public final class PromisesTest {
         due("it gives", x.fee(), 45);
         due("96 bytes", text(x, longest + " "), 1);
         due("96 bytes, too short", text(x, longest + "+"), -196);
+        due("96 bytes, a word last", text(x, longest + "2"), 2);
+        due("it gives", x.fee(), 44 + 12);
+        due("96 bytes, a bad word last", text(x, longest + "a"), -195);
         due("NUMBERS and NAMES", x.textTold(0, 1), 46);
     }
 
@@ -1084,6 +1115,22 @@ public final class PromisesTest {
     private static void faults() {
         promise = 28;
         faultAt("5", 0);
+        faultAt("f", 0);
+        faultAt("tigh f", 0);
+        faultAt("hige f", 0);
+        faultAt("fei s", 0);
+        faultAt("five w", 0);
+        faultAt("high a", 5);
+        faultAt("high az", 5);
+        faultAt("high za", 5);
+        faultAt("feez", 0);
+        faultAt("feea", 0);
+        faultAt("fee{", 3);
+        faultAt("fee`", 3);
+        faultAt("fee:", 3);
+        faultAt("fee/", 3);
+        faultAt("fee09", 3);
+        faultAt("fee 90", -1);
         faultAt(" hig f", 1);
         faultAt("highf", 0);
         faultAt("High f", 0);
@@ -1509,6 +1556,7 @@ public final class PromisesTest {
     private static void counts() {
         promise = 44;
         LevelCellars x = hill();
+        x.cork(0, 1);
         x.cork(1, 1);
         x.hours(2);
         x.seed(-3);
@@ -1516,7 +1564,7 @@ public final class PromisesTest {
         feed(x, "fee 12");
         x.tell(0);
         x.tell(0);
-        int[] want = {4, 3, 2, 30, 1, 1, 2, 6, -3};
+        int[] want = {4, 3, 2, 30, 2, 1, 2, 6, -3};
         for (int what = 0; what < 9; what++) {
             due("count(" + what + ")", x.count(what), want[what]);
         }
