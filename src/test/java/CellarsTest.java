@@ -141,6 +141,13 @@ public final class CellarsTest extends Sentences {
             due("FULL", x.told(1, 3), 0);
             due("HIGH", x.told(1, 4), 0);
         });
+        says(2, "CELLAR: what high gives, held within 0 .. 999", () -> {
+            LevelCellars x = new LevelCellars();
+            text(x, "high f+l+3");
+            due("one that is empty", x.cellar(0, 10, 20), 0);
+            due("has its HIGH", x.told(0, 4), 23);
+            due("and its LEVEL", x.told(0, 5), 33);
+        });
     }
 
     private static void told() {
@@ -666,6 +673,16 @@ public final class CellarsTest extends Sentences {
                     }
                 }
             });
+        says(12, "LEVEL: FLOOR and HIGH.", () -> {
+            LevelCellars x = new LevelCellars();
+            text(x, "high f");
+            x.deal(8);
+            for (int c = 0; c < 8; c++) {
+                int full = x.told(c, 3);
+                int[] high = {full, full / 2, full > 0 ? full + 1 : 0, Math.max(0, full / 2 - 2), full > 0 ? full + 1 : 0, 0};
+                due("LEVEL of what is drawn", x.told(c, 5), x.told(c, 1) + high[x.told(c, 0)]);
+            }
+        });
     }
 
     private static void seed() {

@@ -147,6 +147,17 @@ public final class HoursTest extends Sentences {
             sorts(x, 0, 0, 0, 1);
             sorts(x, 1, 1, 1, 0);
         });
+        says(14, "of which there is some left, then the next", () -> {
+            // 5 of 2, 2, 2: each gives 1; two lack, and SORT 0 has but one left.
+            LevelCellars x = withCellars(0, 0);
+            x.set(1, 1, 0);
+            x.pipe(0, 1, 1);
+            wine(x, 0, 2, 2, 2);
+            due("1 * 10 / 2", x.pipeOf(0, 4), 5);
+            x.hours(1);
+            sorts(x, 0, 0, 0, 1);
+            sorts(x, 1, 2, 2, 1);
+        });
         says(14, "of the least SORT of which there is some left", () -> {
             // 5 of 0, 3, 4: 0, 2, 2; one lacks, and of SORT 0 there is none.
             LevelCellars x = withCellars(0, 0);
@@ -175,16 +186,21 @@ public final class HoursTest extends Sentences {
             x.pour(0);
             x.hours(3);
         }
-        due("all of it, and more than 999", x.told(0, 8), 699300);
-        x.set(0, 9, 999);
+        for (int i = 0; i < 2; i++) {
+            for (int c = 1; c < 8; c++) {
+                x.set(c, 9, 999);
+            }
+            x.hours(3);
+        }
+        sorts(x, 0, 699300, 13986, 0);
         x.set(0, 2, 1);
         text(x, "high 2");
         for (int p = 0; p < 7; p++) {
             x.cork(p, 1);
         }
-        // 700299 / 4 + 1 = 175075; of SORT 1 999 * 175075 / 700299 = 249, of SORT 0 174825; 1 lacks.
-        due("over the lip", x.hours(1), 175075);
-        sorts(x, 0, 699300 - 174826, 999 - 249, 0);
+        // 713286 / 4 + 1 = 178322; of SORT 1 13986 * 178322 / 713286 = 3496, of SORT 0 174825; 1 lacks.
+        due("over the lip", x.hours(1), 178322);
+        sorts(x, 0, 699300 - 174826, 13986 - 3496, 0);
     }
 
     private static void losing() {

@@ -1,9 +1,15 @@
+import java.util.List;
 import java.util.function.ToIntFunction;
 
 /** The sentences that name boundary cases of what will be: promises 16 to 25. */
 public final class ThoughtTest extends Sentences {
+    private static final List<ToIntFunction<LevelCellars>> THOUGHTS = List.of(x -> x.behind(100, 1), x -> x.taste(0, 1, 100),
+        x -> x.rests(), x -> x.corks(0, 60, 1), x -> x.dig(40, 1), x -> x.loser(60, 1), x -> x.tap(0, 60), x -> x.dug(0, 0, 1));
+
     public static void main(String[] args) {
         onlyThought();
+        zAsItIs();
+        thoughtsAreGone();
         behind();
         taste();
         rests();
@@ -60,21 +66,122 @@ public final class ThoughtTest extends Sentences {
     }
 
     private static void onlyThought() {
-        thinks(16, "behind(100, 1)", x -> x.behind(100, 1));
-        thinks(17, "taste(0, 1, 100)", x -> x.taste(0, 1, 100));
-        thinks(18, "rests()", x -> x.rests());
-        thinks(19, "corks(0, 60, 1)", x -> x.corks(0, 60, 1));
-        thinks(20, "dig(40, 1)", x -> x.dig(40, 1));
-        thinks(21, "loser(60, 1)", x -> x.loser(60, 1));
-        thinks(22, "tap(0, 60)", x -> x.tap(0, 60));
-        thinks(23, "dug(0, 0, 1)", x -> x.dug(0, 0, 1));
-        says(16, "z as it is", () -> {
-            for (int n = 1; n <= 100; n += 9) {
-                LevelCellars y = hill();
-                y.hours(n);
-                due("behind(" + n + ", 0)", hill().behind(n, 0), y.town(0));
-                due("behind(" + n + ", 1)", hill().behind(n, 1), y.town(1));
-                due("behind(" + n + ", 4)", hill().behind(n, 4), y.told(2, 3));
+        String[] told = {"behind(100, 1)", "taste(0, 1, 100)", "rests()", "corks(0, 60, 1)", "dig(40, 1)", "loser(60, 1)",
+            "tap(0, 60)", "dug(0, 0, 1)"};
+        for (int i = 0; i < told.length; i++) {
+            thinks(16 + i, told[i], THOUGHTS.get(i));
+        }
+    }
+
+    private static LevelCellars hillOf(int z) {
+        LevelCellars x = hill();
+        x.seed(z);
+        return x;
+    }
+
+    private static void zAsItIs() {
+        for (int promise = 16; promise <= 23; promise++) {
+            int p = promise;
+            says(promise, "z as it is", () -> {
+                for (int z = 1; z <= 12; z++) {
+                    asItComes(p, z);
+                }
+            });
+        }
+    }
+
+    private static void asItComes(int promise, int z) {
+        LevelCellars x = hillOf(z);
+        LevelCellars behind = hillOf(z);
+        behind.hours(9);
+        switch (promise) {
+            case 16: due("behind(9, 0)", x.behind(9, 0), behind.town(0)); break;
+            case 17: due("taste(0, 1, 9)", x.taste(0, 1, 9), behind.told(0, 9)); break;
+            case 18: due("rests()", x.rests(), firstAtRest(z)); break;
+            case 19: due("corks(3, 9, 1)", x.corks(3, 9, 1), mostWithACork(z)); break;
+            case 20: due("dig(2, 1)", leakyAndSealed(z).dig(2, 1), spiltInTwoHours(z)); break;
+            case 21: due("loser(9, 1)", x.loser(9, 1), mostLost(hillOf(z), behind)); break;
+            case 22: due("tap(2, 9)", x.tap(2, 9), given(z, behind)); break;
+            default: due("dug(0, 0, 1)", x.dug(0, 0, 1), leastDifference(z)); break;
+        }
+    }
+
+    private static int firstAtRest(int z) {
+        LevelCellars x = hillOf(z);
+        int hours = 0;
+        while (x.town(2) > 0 && hours < 200) {
+            x.hours(1);
+            hours++;
+        }
+        return hours;
+    }
+
+    private static int mostWithACork(int z) {
+        int most = MIN;
+        for (int p = 0; p < 3; p++) {
+            LevelCellars x = hillOf(z);
+            x.cork(p, 1);
+            x.hours(9);
+            most = Math.max(most, x.told(3, 3));
+        }
+        return most;
+    }
+
+    /** 105 drops less 5, and less 5 more if they are drunk: then 4 are lost, else 5. */
+    private static LevelCellars leakyAndSealed(int z) {
+        LevelCellars x = withCellars(2, 5);
+        wine(x, 0, 105, 0, 0);
+        x.thirst(100);
+        x.seed(z);
+        return x;
+    }
+
+    private static int spiltInTwoHours(int z) {
+        return (drawn(z, 2) >>> 8) % 2 == 0 ? 5 + 4 : 5 + 5;
+    }
+
+    private static int mostLost(LevelCellars now, LevelCellars behind) {
+        int most = MIN;
+        for (int c = 0; c < 4; c++) {
+            most = Math.max(most, now.told(c, 3) - behind.told(c, 3));
+        }
+        return most;
+    }
+
+    private static int given(int z, LevelCellars behind) {
+        LevelCellars emptied = hillOf(z);
+        wine(emptied, 2, 0, 0, 0);
+        emptied.hours(9);
+        return behind.town(0) - behind.told(2, 3) - (emptied.town(0) - emptied.told(2, 3));
+    }
+
+    private static int leastDifference(int z) {
+        int least = MAX;
+        for (int p = -1; p < 3; p++) {
+            LevelCellars x = hillOf(z);
+            if (p >= 0) {
+                x.cork(p, 1);
+            }
+            int[] levels = {40, 45, 60, NONE, 40};
+            int sum = 0;
+            for (int level : levels) {
+                sum += level == NONE ? 0 : Math.abs(level - x.told(0, 5));
+                x.hours(1);
+            }
+            least = Math.min(least, sum);
+        }
+        return least;
+    }
+
+    /** What one call thought of is nothing to the next one: not even dig()'s thirteenth pipe. */
+    private static void thoughtsAreGone() {
+        says(20, "nothing changes", () -> {
+            for (ToIntFunction<LevelCellars> one : THOUGHTS) {
+                for (ToIntFunction<LevelCellars> other : THOUGHTS) {
+                    LevelCellars x = Towns.full();
+                    one.applyAsInt(x);
+                    due("one thought behind another", other.applyAsInt(x), other.applyAsInt(Towns.full()));
+                }
             }
         });
     }
@@ -343,6 +450,7 @@ public final class ThoughtTest extends Sentences {
             due("1 and 2", x.dig(1, 0), 12);
             due("30 run: HIGH 17", x.dig(1, 1), 0);
             due("twelve still", x.count(1), 12);
+            due("nothing runs through a thirteenth", x.rests(), 0);
             due("no thirteenth is there", x.pipeOf(12, 0), BAD);
             due("nor may it come", x.pipe(0, 2, 1), FULL);
         });
